@@ -213,6 +213,15 @@ final class BeatsTest {
         }
         checks.same("a glass that played dries too", harp.glass(0, 2), 10 - 2 - 3);
         checks.same("at least 0 are left", harp.glass(1, 2), 0);
+        GlassHarp last = new GlassHarp();
+        last.set(0, 5, 3);
+        last.note(1, 80, 3);
+        last.note(2, 80, 1);
+        last.drop(0, 1);
+        last.play(2);
+        checks.same("all are lost", last.glass(0, 2), 0);
+        last.play(1);
+        checks.same("none can be lost", last.glass(0, 2), 0);
     }
 
     private static void comesRound() {

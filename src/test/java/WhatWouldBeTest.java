@@ -17,6 +17,7 @@ final class WhatWouldBeTest {
         wants();
         wantsOfAllRows();
         wantsRefuses();
+        sixteenGlasses();
         mean();
         digest();
         checks.end();
@@ -222,6 +223,34 @@ final class WhatWouldBeTest {
             checks.refused("far row", harp, INDEX, () -> harp.wants(far, 1));
             checks.refused("far beats", harp, ARGUMENT, () -> harp.wants(0, far));
         }
+    }
+
+    /** The edge of all loops over glasses: there is none behind the 16th. */
+    private static void sixteenGlasses() {
+        GlassHarp harp = new GlassHarp();
+        for (int glass = 0; glass < 16; glass++) {
+            harp.set(3, 9, 0);
+            harp.note(1, 48, 2);
+        }
+        harp.note(1, 40, 2);
+        harp.pump(3, 0);
+        checks.same("15 have air", harp.foresee(2, 0), 15);
+        checks.same("two are missed", harp.foresee(2, 2), 2);
+        checks.same("the least number of beats", harp.wants(3, 1), 0);
+        checks.same("air for a 16th", harp.wants(3, 2), 1);
+        harp.strike(16);
+        harp.note(2, 40, 1);
+        harp.pump(3, 2);
+        checks.same("one more and one fewer", harp.advise(40, 3), -1);
+        checks.same("only one fewer", harp.advise(40, 2), -1);
+        harp.pump(3, 3);
+        checks.same("all play", harp.play(2), 16);
+        checks.same("the last plays", harp.glass(15, 6), 1);
+        checks.same("equal tones do not beat", harp.count(8), 0);
+        checks.same("the last is tuned", harp.drop(15, 36), 47);
+        checks.same("the last beats against all others", harp.glass(15, 7), 15);
+        checks.same("pairs", harp.count(8), 15);
+        checks.same("the first of 16", harp.advise(40, 1), 0);
     }
 
     private static void mean() {
