@@ -2,67 +2,64 @@
 final class Checks {
     private int made;
     private int wrong;
+    private String about = "";
+
+    /** What the checks that follow are for. */
+    void about(String words) {
+        about = words + ": ";
+    }
+
+    int made() {
+        return made;
+    }
 
     void same(String what, long got, long due) {
-        made++;
-        if (got != due) {
-            wrong++;
-            System.out.println(what + " answered " + got + ", due is " + due);
-        }
+        verdict(got == due, what + " answered " + got + ", due is " + due);
     }
 
     void sameDouble(String what, double got, double due) {
-        made++;
-        if (Double.compare(got, due) != 0) {
-            wrong++;
-            System.out.println(what + " answered " + got + ", due is " + due);
-        }
+        verdict(Double.compare(got, due) == 0, what + " answered " + got + ", due is " + due);
     }
 
     void sameText(String what, String got, String due) {
-        made++;
-        if (!got.equals(due)) {
-            wrong++;
-            System.out.println(what + " answered " + got + ", due is " + due);
-        }
+        verdict(got.equals(due), what + " answered " + got + ", due is " + due);
     }
 
     void isTrue(String what, boolean holds) {
-        made++;
-        if (!holds) {
-            wrong++;
-            System.out.println(what + " does not hold");
-        }
+        verdict(holds, what + " does not hold");
     }
 
     /** The call throws just this exception, and changes nothing of the harp. */
     void refused(String what, GlassHarp harp, Class<? extends RuntimeException> due, Runnable call) {
-        made++;
+        unchanged(what, harp, () -> sameText(what, thrownBy(call), due.getSimpleName()));
+    }
+
+    /** The call throws nothing, and changes nothing of the harp. */
+    void allowed(String what, GlassHarp harp, Runnable call) {
+        unchanged(what, harp, () -> sameText(what, thrownBy(call), "nothing"));
+    }
+
+    private void unchanged(String what, GlassHarp harp, Runnable call) {
         long before = harp.digest();
-        String thrown = "nothing";
+        call.run();
+        verdict(harp.digest() == before, what + " changed something");
+    }
+
+    /** The simple name of the exception, or "nothing". */
+    static String thrownBy(Runnable call) {
         try {
             call.run();
         } catch (RuntimeException e) {
-            thrown = e.getClass().getSimpleName();
+            return e.getClass().getSimpleName();
         }
-        if (!thrown.equals(due.getSimpleName())) {
-            wrong++;
-            System.out.println(what + " threw " + thrown + ", due is " + due.getSimpleName());
-        }
-        if (harp.digest() != before) {
-            wrong++;
-            System.out.println(what + " changed something");
-        }
+        return "nothing";
     }
 
-    /** The call changes nothing of the harp. */
-    void unchanged(String what, GlassHarp harp, Runnable call) {
+    private void verdict(boolean holds, String told) {
         made++;
-        long before = harp.digest();
-        call.run();
-        if (harp.digest() != before) {
+        if (!holds) {
             wrong++;
-            System.out.println(what + " changed something");
+            System.out.println(about + told);
         }
     }
 
