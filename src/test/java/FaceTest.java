@@ -1,50 +1,49 @@
-import java.io.IOException;
 import java.lang.reflect.Constructor;
 import java.lang.reflect.Field;
 import java.lang.reflect.Method;
 import java.lang.reflect.Modifier;
-import java.nio.file.Files;
 import java.nio.file.Path;
 import java.util.ArrayList;
-import java.util.HashSet;
 import java.util.List;
-import java.util.Set;
-import java.util.TreeSet;
+import java.util.Map;
+import java.util.TreeMap;
+import java.util.regex.Matcher;
+import java.util.regex.Pattern;
 
 /** The public face of the document, and rules of ../shared/LANGUAGE.md that a program can look at. */
 final class FaceTest {
     private static final Path SOURCE = Path.of("src/main/java/GlassHarp.java");
     private static final int MOST_LINES_OF_A_METHOD = 60;
-    private static final String[] FACE = {
-        "int set(int,int,int) IllegalArgumentException IllegalStateException",
-        "int drop(int,int) IndexOutOfBoundsException IllegalArgumentException IllegalStateException",
-        "int pump(int,int) IndexOutOfBoundsException IllegalArgumentException",
-        "int glass(int,int) IndexOutOfBoundsException",
-        "int row(int,int) IndexOutOfBoundsException",
-        "int setLength(int) IllegalArgumentException",
-        "int note(int,int,int) IllegalArgumentException IllegalStateException",
-        "int strike(int) IndexOutOfBoundsException",
-        "int written(int,int) IndexOutOfBoundsException",
-        "int play(int) IllegalArgumentException",
-        "int count(int) IndexOutOfBoundsException",
-        "int needs(int,int) IndexOutOfBoundsException IllegalArgumentException",
-        "int foresee(int,int) IllegalArgumentException IndexOutOfBoundsException",
-        "int advise(int,int) IllegalArgumentException",
-        "int wants(int,int) IndexOutOfBoundsException IllegalArgumentException",
-        "double mean()",
-        "long digest()"};
+    private static final Pattern CALL = Pattern.compile("public (\\w+) (\\w+)\\((.*?)\\)(?: throws (.*))?;");
+    private static final Pattern GROUP = Pattern.compile("Ahead of the calls (.*) the interface says: ---- (.*)\\.");
     private static final String[] NOT_IN_THE_LANGUAGE = {
         "import ", "package ", "->", "::", "try ", "catch", "finally", "synchronized", "assert",
         "instanceof", "System.out", "Exact(", "+ \"", "\" +", "protected", "volatile", "native", "Object"};
 
     private static final Checks checks = new Checks();
+    /** The calls of the document's face, such as "int play(int) IllegalArgumentException", by their names. */
+    private static final Map<String, String> face = new TreeMap<>();
 
-    public static void main(String[] args) throws IOException {
+    public static void main(String[] args) {
+        readFace();
         members();
         privateNames();
         staticFields();
-        source(Files.readAllLines(SOURCE));
+        order();
+        source(Markdown.lines(SOURCE));
         checks.end();
+    }
+
+    private static void readFace() {
+        for (String line : Markdown.blocks(Markdown.DOCUMENT, "java").get(0)) {
+            Matcher call = CALL.matcher(line.strip());
+            if (call.matches()) {
+                String types = call.group(3).replaceAll("(\\w+) \\w+", "$1").replace(" ", "");
+                String thrown = call.group(4) == null ? "" : " " + call.group(4).replace(",", "");
+                face.put(call.group(2), call.group(1) + " " + call.group(2) + "(" + types + ")" + thrown);
+            }
+        }
+        checks.same("calls of the face", face.size(), 17);
     }
 
     private static void members() {
@@ -53,13 +52,13 @@ final class FaceTest {
         Constructor<?>[] constructors = GlassHarp.class.getDeclaredConstructors();
         checks.isTrue("one public constructor", constructors.length == 1
             && Modifier.isPublic(constructors[0].getModifiers()) && constructors[0].getParameterCount() == 0);
-        Set<String> found = new TreeSet<>();
+        Map<String, String> found = new TreeMap<>();
         for (Method method : GlassHarp.class.getDeclaredMethods()) {
             if (!Modifier.isPrivate(method.getModifiers())) {
-                found.add(line(method));
+                checks.isTrue("once: " + method, found.put(method.getName(), line(method)) == null);
             }
         }
-        checks.sameText("the face", found.toString(), new TreeSet<>(List.of(FACE)).toString());
+        checks.sameText("the face", found.toString(), face.toString());
     }
 
     private static String line(Method method) {
@@ -76,16 +75,12 @@ final class FaceTest {
     }
 
     private static void privateNames() {
-        Set<String> names = new HashSet<>();
-        for (String line : FACE) {
-            names.add(line.substring(line.indexOf(' ') + 1, line.indexOf('(')));
-        }
         List<Class<?>> all = new ArrayList<>(List.of(GlassHarp.class.getDeclaredClasses()));
         all.add(GlassHarp.class);
         for (Class<?> one : all) {
             for (Method method : one.getDeclaredMethods()) {
                 checks.isTrue("its own name: " + method, !Modifier.isPrivate(method.getModifiers())
-                    || !names.contains(method.getName()));
+                    || !face.containsKey(method.getName()));
                 checks.isTrue("few parameters: " + method, method.getParameterCount() <= 7);
             }
         }
@@ -96,6 +91,26 @@ final class FaceTest {
             checks.isTrue("private: " + field, Modifier.isPrivate(field.getModifiers()));
             checks.isTrue("final: " + field, Modifier.isFinal(field.getModifiers()));
         }
+    }
+
+    /** The calls stand in the document's order, each group behind what the interface says ahead of it. */
+    private static void order() {
+        StringBuilder due = new StringBuilder();
+        for (String line : Markdown.lines(Markdown.DOCUMENT)) {
+            Matcher group = GROUP.matcher(line);
+            if (group.matches()) {
+                due.append(" ---- ").append(group.group(2)).append(" ").append(group.group(1).replaceAll("[`,]", ""));
+            }
+        }
+        StringBuilder found = new StringBuilder();
+        for (String line : Markdown.lines(SOURCE)) {
+            if (line.startsWith("    // ---- ")) {
+                found.append(line.substring("    //".length()));
+            } else if (line.matches("    public \\w+ \\w+\\(.*")) {
+                found.append(line.replaceFirst("    public \\w+( \\w+)\\(.*", "$1"));
+            }
+        }
+        checks.sameText("the order of the face", found.toString(), due.toString());
     }
 
     private static void source(List<String> lines) {

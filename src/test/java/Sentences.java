@@ -1,7 +1,3 @@
-import java.io.IOException;
-import java.io.UncheckedIOException;
-import java.nio.file.Files;
-import java.nio.file.Path;
 import java.util.ArrayList;
 import java.util.LinkedHashMap;
 import java.util.List;
@@ -12,7 +8,6 @@ import java.util.Map;
  * so that it stays bound to what it is for, and none of what a call throws is left without a test.
  */
 final class Sentences {
-    private static final Path DOCUMENT = Path.of("../shared/DOC.md");
     private static final String THROWS_BUT_FOR_ITS_CASES = "Throws `\\w+` if( |,|or )*";
 
     private final Checks checks;
@@ -23,20 +18,12 @@ final class Sentences {
     Sentences(Checks checks) {
         this.checks = checks;
         List<String> lines = new ArrayList<>();
-        for (String line : documentLines()) {
+        for (String line : Markdown.lines(Markdown.DOCUMENT)) {
             if (line.startsWith("## ")) {
                 lines = new ArrayList<>();
                 document.put(line.substring(3).replaceFirst(":.*", ""), lines);
             }
             lines.add(line.strip());
-        }
-    }
-
-    private static List<String> documentLines() {
-        try {
-            return Files.readAllLines(DOCUMENT);
-        } catch (IOException e) {
-            throw new UncheckedIOException(e);
         }
     }
 
